@@ -45,6 +45,7 @@ public final class PromiseTests {
         promise17EmptyDomain();
         promise17OrderOfVariables();
         promise17Shadowing();
+        promise17EachVariable();
         promise18Answer();
     }
 
@@ -182,6 +183,14 @@ public final class PromiseTests {
         x.drop(0, 0);
         due("4 none left", 0, () -> x.drop(0, 0));
         checks.fails("4 of none", x, INDEX, () -> x.drop(0, 0));
+        x.fact(0, 5, 5, 0);
+        x.atom(0, 0, 0, 0);
+        x.atom(0, 0, 1, 0);
+        due("4 of two like values", "5", () -> rows(x, 0));
+        x.drop(0, 0);
+        x.fact(0, 0, 5, 0);
+        due("4 they are gone", "", () -> rows(x, 0));
+        due("4 the new one is there", "05", () -> rows(x, 1));
     }
 
     private void promise5to7Facts() {
@@ -389,11 +398,13 @@ public final class PromiseTests {
             due("14 depth " + f, depths[f], () -> x.ofFormula(f, 2));
             due("14 domain " + f, domains[f], () -> x.ofFormula(f, 5));
         }
+        x.join(true, 0, 4);
+        due("14 depth of b", 2, () -> x.ofFormula(7, 2));
         x.fact(1, 0, 0, 0);
         due("14 the domain is what it is now", 31, () -> x.ofFormula(0, 5));
         checks.fails("14 what 6", x, ARGUMENT, () -> x.ofFormula(0, 6));
         checks.fails("14 what -1", x, ARGUMENT, () -> x.ofFormula(0, -1));
-        checks.fails("14 no formula", x, INDEX, () -> x.ofFormula(7, 6));
+        checks.fails("14 no formula", x, INDEX, () -> x.ofFormula(8, 6));
         checks.fails("14 below", x, INDEX, () -> x.ofFormula(-1, 0));
     }
 
@@ -601,6 +612,37 @@ public final class PromiseTests {
             due("17 v " + v + " outside is another one", v == 0 ? 9 : 1 + (1 << v), () -> x.ofFormula(both, 1));
             due("17 v " + v + " bound twice", "1 2 3 4", () -> rows(x, again));
             due("17 v " + v + " both ways", 8, () -> x.answers(other));
+            due("17 v " + v + " both ways, in order", rows(x, other), () -> rows(x, both));
+        }
+    }
+
+    /** SOME and EVERY for each VARIABLE: who is beside all marked ones, and who is beside one. */
+    private void promise17EachVariable() {
+        for (int k = 0; k < 6; k++) {
+            int v = k;
+            int other = (k + 1) % 6;
+            Thimble x = new Thimble();
+            x.relation(2);
+            x.relation(1);
+            x.fact(1, 0, 0, 0);
+            x.fact(1, 3, 0, 0);
+            x.fact(0, 0, 0, 0);
+            x.fact(0, 0, 3, 0);
+            x.fact(0, 3, 0, 0);
+            x.fact(0, 5, 3, 0);
+            x.fact(0, 6, 6, 0);
+            int edge = x.atom(0, other, v, 0);
+            int mark = x.atom(1, v, 0, 0);
+            int every = x.bind(false, v, x.join(false, x.not(mark), edge));
+            int some = x.bind(true, v, x.join(true, mark, edge));
+            int beside = x.join(true, some, x.not(every));
+            due("17 every " + v, "0", () -> rows(x, every));
+            due("17 some " + v, "0 3 5", () -> rows(x, some));
+            due("17 some, not every " + v, "3 5", () -> rows(x, beside));
+            int alone = x.bind(true, v, x.join(true, x.not(mark), x.bind(false, other, edge)));
+            due("17 every within some " + v, 0, () -> x.answers(alone));
+            int bound = x.join(true, x.bind(false, v, x.same(v, v)), mark);
+            due("17 every " + v + " beside a free one", "0 3", () -> rows(x, bound));
         }
     }
 
@@ -726,8 +768,18 @@ public final class PromiseTests {
         due("23 an atom of values holds", "6", () -> rowsOfRule(x, 4, 1));
         x.add(4, 0, 12, 11, 0);
         due("23 an atom of values does not hold", 0, () -> x.tells(4));
-        checks.fails("23 no rule", x, INDEX, () -> x.tells(5));
-        checks.fails("23 below", x, INDEX, () -> x.tells(-1));
+        x.relation(2);
+        x.fact(2, 0, 1, 0);
+        x.fact(2, 0, 5, 0);
+        x.fact(2, 1, 0, 0);
+        x.rule(2, 5, 4, 0);
+        x.add(5, 2, 4, 5, 0);
+        x.add(5, 2, 5, 3, 0);
+        x.add(5, 2, 4, 3, 0);
+        x.fact(2, 1, 5, 0);
+        due("23 with the value 0", "01 10", () -> rowsOfRule(x, 5, 2));
+        checks.fails("23 no rule", x, INDEX, () -> x.tells(6));
+        checks.fails("23 rule below", x, INDEX, () -> x.tells(-1));
     }
 
     private void promise24Row() {
@@ -975,9 +1027,14 @@ public final class PromiseTests {
         x.add(2, 0, 2, 3, 0);
         due("29 three to bind", 5, () -> x.translate(2));
         due("29 depth", 3, () -> x.ofFormula(5, 2));
-        checks.fails("29 no rule", x, INDEX, () -> x.translate(3));
+        x.rule(0, 0, 0, 0);
+        x.add(3, 0, 0, 5, 0);
+        due("29 each variable bound", 8, () -> x.translate(3));
+        due("29 nothing is free", 0, () -> x.ofFormula(8, 1));
+        due("29 from the greatest on", 1, () -> x.ofFormula(7, 1));
+        checks.fails("29 no rule", x, INDEX, () -> x.translate(4));
         checks.fails("29 below", x, INDEX, () -> x.translate(-1));
-        for (int k = 6; k < 34; k++) {
+        for (int k = 9; k < 34; k++) {
             x.same(0, 0);
         }
         due("29 up to 40", 39, () -> x.translate(2));
