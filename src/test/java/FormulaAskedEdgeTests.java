@@ -23,6 +23,9 @@ public final class FormulaAskedEdgeTests {
         Made.fill(x, 0, 1, 8);
         return 0;
     });
+    private static final Asker.Maker FEW = Made.then(BARE, x -> x.fact(2, 0, 0, 0), x -> x.fact(2, 0, 0, 7),
+            x -> x.fact(2, 0, 7, 0), x -> x.fact(2, 7, 0, 0), x -> x.fact(2, 7, 0, 7), x -> x.fact(2, 7, 5, 3),
+            x -> x.fact(1, 3, 3, 0), x -> x.fact(1, 3, 5, 0));
 
     private final Edges edges = new Edges();
 
@@ -40,6 +43,10 @@ public final class FormulaAskedEdgeTests {
         tests.answersRefused();
         tests.answersOfManyFree();
         tests.answersOfNoneFree();
+        tests.atomHolds();
+        tests.sameHolds();
+        tests.notBothAndEitherHold();
+        tests.someAndEveryHold();
         tests.emptyDomain();
         tests.domainOfTheWhole();
         tests.variableOutside();
@@ -214,10 +221,20 @@ public final class FormulaAskedEdgeTests {
         boundUpAndDown(2, 0, x -> x.bind(true, 0, x.atom(1, 0, 1, 0)));
         boundUpAndDown(3, 0, x -> x.bind(true, 5, x.atom(1, 0, 1, 0)));
         boundUpAndDown(0, 0, x -> x.bind(true, 0, x.not(x.atom(1, 0, 1, 0))));
+        for (int k = 0; k <= 5; k++) {
+            int v = k;
+            int other = (k + 1) % 6;
+            boundUpAndDown(1 << other, 0, x -> x.bind(true, v, x.atom(1, v, other, 0)));
+        }
         edges.sentence("BOUND: of EVERY UP none; DOWN those of a but v");
         boundUpAndDown(0, 0, x -> x.bind(false, 0, x.atom(1, 0, 1, 0)));
         boundUpAndDown(0, 2, x -> x.bind(false, 0, x.not(x.atom(1, 0, 1, 0))));
         boundUpAndDown(0, 3, x -> x.bind(false, 5, x.not(x.atom(1, 0, 1, 0))));
+        for (int k = 0; k <= 5; k++) {
+            int v = k;
+            int other = (k + 1) % 6;
+            boundUpAndDown(0, 1 << other, x -> x.bind(false, v, x.not(x.atom(1, v, other, 0))));
+        }
     }
 
     private void safe(boolean want, Asker.Call adding) {
@@ -367,6 +384,135 @@ public final class FormulaAskedEdgeTests {
         edges.due(0, ALL_VALUES, x -> x.answers(x.bind(true, 1, x.not(x.atom(0, 1, 0, 0)))));
     }
 
+    private static String rows(Thimble x, int formula) {
+        StringBuilder all = new StringBuilder();
+        for (int k = 0; k < x.answers(formula); k++) {
+            all.append(k == 0 ? "" : " ");
+            for (int i = 0; i < Integer.bitCount(x.ofFormula(formula, 1)); i++) {
+                all.append(x.answer(formula, k, i));
+            }
+        }
+        return all.toString();
+    }
+
+    private void answered(String want, Asker.Maker maker, Asker.Call adding) {
+        edges.due(want, maker, x -> rows(x, (int) adding.of(x)));
+    }
+
+    private void atomHolds() {
+        edges.sentence("HOLDS: ATOM, if the row is a FACT: a VARIABLE that is in it twice has one VALUE");
+        for (int k = 0; k <= 5; k++) {
+            int v = k;
+            answered("0", FEW, x -> x.atom(2, v, v, v));
+            answered("3", FEW, x -> x.atom(1, v, v, 0));
+            for (int n = k + 1; n <= 5; n++) {
+                int w = n;
+                answered("00 07", FEW, x -> x.atom(2, v, v, w));
+                answered("00 07 70", FEW, x -> x.atom(2, v, w, v));
+                answered("00 07", FEW, x -> x.atom(2, w, v, v));
+                answered("33 53", FEW, x -> x.atom(1, w, v, 0));
+            }
+        }
+        edges.sentence("HOLDS: ATOM, if the row is a FACT: one that was taken away is none, and leaves nothing");
+        Asker.Maker other = Made.then(BARE, x -> x.fact(2, 0, 0, 0), x -> x.drop(2, 0), x -> x.fact(2, 0, 1, 2));
+        for (int k = 0; k < 5; k++) {
+            int v = k;
+            answered("", other, x -> x.atom(2, v, v, v + 1));
+            answered("", other, x -> x.atom(2, v, v + 1, v));
+            answered("", other, x -> x.atom(2, v + 1, v, v));
+            answered("", Made.then(other, x -> x.drop(2, 0), x -> x.fact(2, 5, 5, 5)), x -> x.atom(2, 10, v, v));
+            answered("12", other, x -> x.atom(2, 10, v, v + 1));
+        }
+    }
+
+    private void sameHolds() {
+        edges.sentence("HOLDS: SAME, if both are");
+        for (int k = 0; k <= 5; k++) {
+            int v = k;
+            answered("0 3 5 7", FEW, x -> x.same(v, v));
+            answered("0", FEW, x -> x.same(10, v));
+            answered("7", FEW, x -> x.same(v, 17));
+            for (int n = k + 1; n <= 5; n++) {
+                int w = n;
+                answered("00 33 55 77", FEW, x -> x.same(w, v));
+            }
+        }
+    }
+
+    private void notBothAndEitherHold() {
+        edges.sentence("HOLDS: NOT, BOTH, EITHER (or both) as they say: no VARIABLE is FREE");
+        int t = HOLDING;
+        int f = NOT_HOLDING;
+        edges.due(0, SMALL, x -> x.answers(x.not(t)));
+        edges.due(1, SMALL, x -> x.answers(x.not(f)));
+        edges.due(1, SMALL, x -> x.answers(x.join(true, t, t)));
+        edges.due(0, SMALL, x -> x.answers(x.join(true, t, f)));
+        edges.due(0, SMALL, x -> x.answers(x.join(true, f, t)));
+        edges.due(0, SMALL, x -> x.answers(x.join(true, f, f)));
+        edges.due(1, SMALL, x -> x.answers(x.join(false, t, t)));
+        edges.due(1, SMALL, x -> x.answers(x.join(false, t, f)));
+        edges.due(1, SMALL, x -> x.answers(x.join(false, f, t)));
+        edges.due(0, SMALL, x -> x.answers(x.join(false, f, f)));
+        edges.sentence("HOLDS: NOT, BOTH, EITHER (or both) as they say: one or two VARIABLES are FREE");
+        Asker.Maker two = Made.then(EMPTY, x -> x.relation(1), x -> x.relation(1), x -> x.fact(0, 0, 0, 0),
+                x -> x.fact(0, 3, 0, 0), x -> x.fact(1, 3, 0, 0), x -> x.fact(1, 5, 0, 0));
+        Asker.Maker zero = Made.then(EMPTY, x -> x.relation(1), x -> x.relation(1), x -> x.relation(2),
+                x -> x.fact(0, 0, 0, 0), x -> x.fact(2, 0, 0, 0));
+        for (int k = 0; k <= 5; k++) {
+            int v = k;
+            answered("5", two, x -> x.not(x.atom(0, v, 0, 0)));
+            answered("3", two, x -> x.join(true, x.atom(0, v, 0, 0), x.atom(1, v, 0, 0)));
+            answered("0 3 5", two, x -> x.join(false, x.atom(0, v, 0, 0), x.atom(1, v, 0, 0)));
+            for (int n = k + 1; n <= 5; n++) {
+                int w = n;
+                answered("03 05 33 35", two, x -> x.join(true, x.atom(0, v, 0, 0), x.atom(1, w, 0, 0)));
+                answered("00 03 05 30 33 35 53 55", two,
+                        x -> x.join(false, x.atom(0, v, 0, 0), x.atom(1, w, 0, 0)));
+                answered("", zero, x -> x.join(true, x.atom(0, v, 0, 0), x.atom(1, w, 0, 0)));
+                answered("00", zero, x -> x.join(false, x.atom(0, v, 0, 0), x.atom(1, w, 0, 0)));
+                answered("00", zero, x -> x.join(false, x.atom(1, v, 0, 0), x.atom(0, w, 0, 0)));
+                answered("", zero, x -> x.join(true, x.atom(2, v, w, 0), x.atom(1, v, 0, 0)));
+                answered("", zero, x -> x.join(true, x.atom(2, v, w, 0), x.not(x.atom(2, v, w, 0))));
+                answered("00", zero, x -> x.join(false, x.not(x.atom(2, v, w, 0)), x.atom(2, v, w, 0)));
+            }
+        }
+    }
+
+    private void someAndEveryHold() {
+        for (int k = 0; k < 6 * 8; k++) {
+            int v = k / 8;
+            int value = k % 8;
+            int other = (v + 1) % 6;
+            edges.sentence("SOME v a: if a HOLDS with some VALUE: with one alone");
+            answered("2", Made.then(ALL_VALUES, x -> x.fact(1, 2, value, 0)),
+                    x -> x.bind(true, v, x.atom(1, other, v, 0)));
+            edges.sentence("EVERY, with each: with all but one is not enough");
+            Asker.Maker allButOne = Made.then(ALL_VALUES, x -> {
+                for (int w = 0; w < 8; w++) {
+                    x.fact(1, 5, w, 0);
+                    x.fact(1, 2, w == value ? (w + 1) % 8 : w, 0);
+                }
+                return 0;
+            });
+            answered("5", allButOne, x -> x.bind(false, v, x.atom(1, other, v, 0)));
+            answered("0 1 2 3 4 6 7", allButOne, x -> x.bind(true, v, x.not(x.atom(1, other, v, 0))));
+        }
+        edges.sentence("EVERY, with each: the last VALUE counts, too");
+        Asker.Maker lastLeftOut = Made.then(ALL_VALUES, x -> {
+            for (int w = 0; w < 7; w++) {
+                x.fact(2, 0, 0, w);
+            }
+            return 0;
+        });
+        for (int k = 0; k <= 5; k++) {
+            int v = k;
+            int a = (v + 4) % 6;
+            int b = (v + 5) % 6;
+            answered("", lastLeftOut, x -> x.bind(false, v, x.atom(2, a, b, v)));
+            answered("00", Made.then(lastLeftOut, x -> x.fact(2, 0, 0, 7)), x -> x.bind(false, v, x.atom(2, a, b, v)));
+        }
+    }
+
     private void emptyDomain() {
         for (int k = 0; k <= 5; k++) {
             int v = k;
@@ -429,9 +575,10 @@ public final class FormulaAskedEdgeTests {
             Asker.Maker beside = Made.then(SMALL, x -> x.atom(Made.MARK, v, 0, 0), x -> x.bind(true, v, NEXT),
                     x -> x.atom(Made.EDGE, v, other, 0), x -> x.join(true, NEXT + 1, NEXT + 2),
                     x -> x.join(true, NEXT + 2, NEXT + 1), x -> x.join(true, NEXT, NEXT + 2));
-            edges.asked(4, beside, x -> x.answers(NEXT + 3));
-            edges.asked(4, beside, x -> x.answers(NEXT + 4));
-            edges.asked(1, beside, x -> x.answers(NEXT + 5));
+            String all = v < other ? "12 23 31 34" : "13 21 32 43";
+            answered(all, beside, x -> NEXT + 3);
+            answered(all, beside, x -> NEXT + 4);
+            answered(v < other ? "23" : "32", beside, x -> NEXT + 5);
             edges.asked((1 << v) + (1 << other), beside, x -> x.ofFormula(NEXT + 3, 1));
         }
         edges.sentence("EVERY, with each: whatever v is outside of it");

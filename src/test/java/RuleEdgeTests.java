@@ -260,6 +260,30 @@ public final class RuleEdgeTests {
         edges.asked(2, SMALL, x -> x.tells(THREE_TERMS));
         edges.due(0, SMALL, x -> x.add(TWO_STEPS, Made.EDGE, 0, 0, 0), x -> x.tells(TWO_STEPS));
         edges.due(0, SMALL, x -> x.relation(1), x -> x.add(TWO_STEPS, 3, 1, 0, 0), x -> x.tells(TWO_STEPS));
+        edges.sentence("TELLS: with the VALUE 0, too");
+        for (int k = 0; k < 6; k++) {
+            int a = k;
+            int b = (k + 1) % 6;
+            int c = (k + 2) % 6;
+            Asker.Maker zero = Made.then(EMPTY, x -> x.relation(2), x -> x.fact(0, 0, 1, 0), x -> x.fact(0, 0, 5, 0),
+                    x -> x.fact(0, 1, 0, 0), x -> x.fact(0, 1, 5, 0), x -> x.rule(2, a, b, 0),
+                    x -> x.add(0, 0, b, a, 0), x -> x.add(0, 0, a, c, 0), x -> x.add(0, 0, b, c, 0));
+            edges.asked(2, zero, x -> x.tells(0));
+            edges.asked(0, zero, x -> x.row(0, 0, 0));
+            edges.asked(1, zero, x -> x.row(0, 0, 1));
+            edges.asked(1, zero, x -> x.row(0, 1, 0));
+        }
+        edges.sentence("TELLS: a FACT that was taken away leaves nothing, also of a VARIABLE that is in it twice");
+        for (int k = 0; k < 6; k++) {
+            int v = k;
+            int w = (k + 1) % 6;
+            Asker.Maker other = Made.then(EMPTY, x -> x.relation(3), x -> x.fact(0, 0, 0, 0), x -> x.drop(0, 0),
+                    x -> x.fact(0, 0, 1, 2), x -> x.rule(0, 0, 0, 0));
+            edges.due(0, other, x -> x.add(0, 0, v, v, w), x -> x.tells(0));
+            edges.due(0, other, x -> x.add(0, 0, v, w, v), x -> x.tells(0));
+            edges.due(0, other, x -> x.add(0, 0, w, v, v), x -> x.order(0, 0, 1));
+            edges.due(1, other, x -> x.add(0, 0, w, v, (v + 2) % 6), x -> x.tells(0));
+        }
         edges.sentence("TELLS: (each row once)");
         edges.asked(1, SMALL, x -> x.tells(5));
         edges.due(3, SMALL, x -> x.rule(1, 0, 0, 0), x -> x.add(NEXT, Made.EDGE, 0, 1, 0), x -> x.tells(NEXT));
